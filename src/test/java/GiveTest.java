@@ -7,6 +7,7 @@ public final class GiveTest {
         refusesKinds();
         isNotNotedAsTaken();
         goesEightDeep();
+        goesEightDeepThroughEachSort();
         countsAMissingOneAsDeep();
         goesToSixteen();
         countsAMissingOneAmongSixteen();
@@ -73,6 +74,31 @@ public final class GiveTest {
         due.is("give(2, 1), nine", x.give(2, 1), -16);
         due.is("count(4)", x.count(4), 8);
         due.box(x, 2, 0, 0);
+    }
+
+    /** Each of these sorts hands on to its former, one deeper; its own box, where it has one, is 5. */
+    private static void goesEightDeepThroughEachSort() {
+        for (int sort : new int[] {2, 4, 5, 7, 10, 11}) {
+            int a = sort == 2 ? 2 : sort == 4 || sort == 7 ? 0 : 5;
+            MailRoom x = chain(7);
+            x.handle(2, sort, a, 1, 1);
+            due.is("give(2, 1), the eighth below sort " + sort, x.give(2, 1), 1);
+            due.is("counted(2)", x.counted(2), 1);
+            x = chain(8);
+            x.handle(2, sort, a, 1, 1);
+            due.is("give(2, 1), the ninth below sort " + sort, x.give(2, 1), -16);
+            due.is("counted(2)", x.counted(2), 0);
+            due.is("count(4)", x.count(4), 8);
+        }
+        for (int many = 7; many < 9; many++) {
+            MailRoom x = chain(many);
+            x.handle(0, 7, 2, 0, 0);
+            x.handle(3, 3, 2, 0, 0);
+            due.is("give(0, 1), BOTH with a chain of " + many, x.give(0, 1), many == 7 ? 1 : -16);
+            due.is("count(4)", x.count(4), 9);
+            due.is("give(3, 1), NOW with a chain of " + many, x.give(3, 1), many == 7 ? 1 : -16);
+            due.is("count(4)", x.count(4), 8);
+        }
     }
 
     private static void countsAMissingOneAsDeep() {
