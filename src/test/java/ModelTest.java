@@ -10,8 +10,11 @@ import java.util.Random;
  * so that a slip in the one is unlikely to stand in the other. The seed is fixed: each run is the same each time.
  */
 public final class ModelTest {
-    private static final int RUNS = 3000;
+    private static final int RUNS = 20000;
+    /** The document promises nothing about an object behind its 512th call. */
     private static final int CALLS = 512;
+    private static final int CALLS_OF_LOOK_ALL = 31;
+    private static final int MOST_CALLS_OF_A_STEP = 3;
     private static final int WRONG_TOLD = 10;
 
     private static final class Failure extends Exception {
@@ -239,6 +242,7 @@ public final class ModelTest {
     private final Model model = new Model();
     private final int leaning;
     private final StringBuilder told = new StringBuilder();
+    private int calls = 0;
     private boolean wrong = false;
 
     private ModelTest(int seed) {
@@ -247,6 +251,7 @@ public final class ModelTest {
     }
 
     private void same(String call, long got, long want) {
+        calls++;
         told.append("  ").append(call).append(" = ").append(want).append('\n');
         if (got != want) {
             told.append("  but it answered ").append(got).append('\n');
@@ -310,11 +315,15 @@ public final class ModelTest {
         same("drop(" + k + ")", room.drop(k), due);
     }
 
+    private void lookAtBox(int box) {
+        boolean known = Model.in(box, 0, 5);
+        same("sum(" + box + ")", room.sum(box), known ? model.sums[box] : 0);
+        same("counted(" + box + ")", room.counted(box), known ? model.counts[box] : -2);
+    }
+
     private void lookAll() {
         for (int box = -1; box < 7; box++) {
-            boolean known = Model.in(box, 0, 5);
-            same("sum(" + box + ")", room.sum(box), known ? model.sums[box] : 0);
-            same("counted(" + box + ")", room.counted(box), known ? model.counts[box] : -2);
+            lookAtBox(box);
         }
         for (int k = 0; k < 10; k++) {
             same("has(" + k + ")", room.has(k), model.deeds.get(k) != null ? 1 : 0);
@@ -334,23 +343,20 @@ public final class ModelTest {
             post();
         } else if (turn < 92) {
             take();
-        } else if (turn < 98) {
+        } else if (turn < 96) {
             ask();
+        } else if (turn < 98) {
+            lookAtBox(number(6));
         } else {
             drop();
         }
     }
 
-    /** What was looked at between the calls changes nothing, so it is told of the first wrong call alone. */
     private boolean runIsRight() {
-        for (int call = 0; call < CALLS && !wrong; call++) {
+        while (calls + MOST_CALLS_OF_A_STEP + CALLS_OF_LOOK_ALL <= CALLS && !wrong) {
             step();
-            int length = told.length();
-            lookAll();
-            if (!wrong) {
-                told.setLength(length);
-            }
         }
+        lookAll();
         return !wrong;
     }
 
